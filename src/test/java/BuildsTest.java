@@ -186,6 +186,8 @@ public final class BuildsTest {
         x.setThreshold(0, 50);
         x.pass(6);
         CHECKS.due("newest(0), with half the score enough", x.newest(0), 1);
+        x.recall(1);
+        CHECKS.due("newest(0), with only the first one left", x.newest(0), 0);
     }
 
     private static void newestRefuses() {

@@ -114,6 +114,9 @@ public final class KeysTest {
         CHECKS.due("isLive(1)", x.isLive(1), false);
         CHECKS.due("loseKey(0)", x.loseKey(0), 1);
         CHECKS.due("loseKey(2), with nothing trusted", x.loseKey(2), 0);
+        for (int key = 0; key < 3; key++) {
+            CHECKS.due("isLive(" + key + "), with all lost", x.isLive(key), false);
+        }
         loseKeyThatIsNotLive();
         loseKeyOfRecalledBuild();
     }

@@ -18,6 +18,7 @@ public final class TrustTest {
         isTrustedByFloats();
         hangsOnKey();
         hangsOnKeyRefuses();
+        fullLine();
         CHECKS.end();
     }
 
@@ -286,5 +287,30 @@ public final class TrustTest {
         for (int key : Checks.notBetweenZeroAnd(5)) {
             CHECKS.refuses(INDEX, "hangsOnKey(" + key + ")", TrustTest::sixKeys, x -> x.hangsOnKey(key));
         }
+    }
+
+    /** As many keys and builds as there may be: all builds are trusted by the signers of the keys 6 and 7 alone. */
+    private static void fullLine() {
+        CHECKS.promise(20);
+        Buildlots x = new Buildlots();
+        for (int key = 0; key < 8; key++) {
+            x.addKey(key < 7 ? 2 : 3, 0, 9 + key);
+        }
+        for (int build = 0; build < 24; build++) {
+            x.build(build % 5, 0, 0);
+            x.attest(build, 6);
+            x.attest(build, 7);
+        }
+        CHECKS.due("hangsOnKey(7) of all builds", x.hangsOnKey(7), 24);
+        CHECKS.due("hangsOnKey(5), which attested nothing", x.hangsOnKey(5), 0);
+        x.attest(23, 5);
+        CHECKS.due("hangsOnKey(6), with a spare key for build 23", x.hangsOnKey(6), 23);
+        CHECKS.promise(13);
+        CHECKS.due("newest(3)", x.newest(3), 23);
+        CHECKS.promise(31);
+        CHECKS.due("pass(16)", x.pass(16), 24);
+        CHECKS.promise(15);
+        CHECKS.due("vouches(23, 2)", x.vouches(23, 2), false);
+        CHECKS.due("vouches(23, 3)", x.vouches(23, 3), true);
     }
 }
