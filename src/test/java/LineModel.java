@@ -286,6 +286,18 @@ final class LineModel {
         return Double.doubleToLongBits(sum);
     }
 
+    int numberOfKeys() {
+        return keys.size();
+    }
+
+    int numberOfBuilds() {
+        return builds.size();
+    }
+
+    int numberOfMirrors() {
+        return mirrors.size();
+    }
+
     private Set<Integer> allUsed(int build) {
         Set<Integer> all = new TreeSet<>(builds.get(build).inputs);
         for (int input : builds.get(build).inputs) {

@@ -8,8 +8,8 @@ public final class ModelTest {
     private static final int[] ODD = {-1, Integer.MIN_VALUE, Integer.MAX_VALUE, 24, 31, 32, 1000};
     /** Each call's number as often as it shall come, so that runs fill up and still ask much. */
     private static final String OFTEN = "addKey addKey build build build attest attest attest attest attest attest "
-            + "pass update recall lift rebuild setWeight setThreshold extendKey addMirror install install ";
-    private static final String ONCE = "loseKey isLive nameOf version uses used newest vouches vouchesByList score "
+            + "pass update recall lift rebuild setWeight setThreshold extendKey loseKey addMirror install install ";
+    private static final String ONCE = "isLive nameOf version uses used newest vouches vouchesByList score "
             + "scoreBits isTrusted hangsOnKey isRecalled share isExpired setExpiry day scoreSumBits ";
     private static final String[] CALLS_BY_NUMBER = (OFTEN + ONCE + ONCE).split(" ");
 
@@ -44,14 +44,26 @@ public final class ModelTest {
         return (int) ((seed >>> 33) % bound);
     }
 
-    /** A number from 0 to one too high, and seldom one that is far off. */
+    /** A number of those that there are, seldom the one after them, and more seldom one that is far off. */
     private int number(int count) {
-        return below(60) == 0 ? ODD[below(ODD.length)] : below(count + (below(12) == 0 ? 1 : 0));
+        return below(60) == 0 ? ODD[below(ODD.length)] : below(Math.max(1, count + (below(12) == 0 ? 1 : 0)));
     }
 
-    /** Some runs have short spans of days, some long ones. */
-    private int dayOn() {
-        return model.day() + below(run % 3 == 0 ? 9 : 80) - below(10) / 9;
+    private int key() {
+        return number(model.numberOfKeys());
+    }
+
+    private int build() {
+        return number(model.numberOfBuilds());
+    }
+
+    private int mirror() {
+        return number(model.numberOfMirrors());
+    }
+
+    /** Some runs have short spans of days, some long ones; most keys are live soon, for else nothing is trusted. */
+    private int span() {
+        return below(8) == 0 ? below(12) - 2 : below(run % 3 == 0 ? 30 : 400);
     }
 
     private int inputs() {
@@ -60,7 +72,7 @@ public final class ModelTest {
             inputs |= 1 << below(24);
         }
         // most sets name builds that there are, which a set out of 24 seldom does in a new line
-        return below(6) == 0 ? inputs : inputs & 0xff >>> below(8);
+        return below(6) == 0 ? inputs : inputs & (1 << model.numberOfBuilds()) - 1;
     }
 
     private void step(String call) {
@@ -75,13 +87,13 @@ public final class ModelTest {
     }
 
     private void keyStep(String call) {
-        int key = number(8);
+        int key = key();
         int signer = number(4);
         int name = number(5);
-        int first = dayOn();
-        int last = below(20) == 0 ? 990 + below(12) : dayOn();
+        int first = model.day() + (below(2) == 0 ? 0 : below(12) - below(10) / 9);
+        int last = below(20) == 0 ? 990 + below(12) : first + span();
         int weight = below(3) == 0 ? 50 : number(101);
-        int threshold = below(2) == 0 ? 1 + number(100) : number(401);
+        int threshold = below(3) > 0 ? 1 + number(100) : number(401);
         switch (call) {
             case "addKey" -> same(call, x -> x.addKey(signer, first, last), () -> model.addKey(signer, first, last));
             case "loseKey" -> same(call, x -> x.loseKey(key), () -> model.loseKey(key));
@@ -93,8 +105,8 @@ public final class ModelTest {
     }
 
     private void buildStep(String call) {
-        int build = number(24);
-        int other = number(24);
+        int build = build();
+        int other = build();
         int name = number(5);
         int inputs = inputs();
         int result = below(3);
@@ -109,8 +121,8 @@ public final class ModelTest {
     }
 
     private void trustStep(String call) {
-        int build = below(2) == 0 ? number(24) : number(8);
-        int key = number(8);
+        int build = build();
+        int key = key();
         int signer = number(4);
         switch (call) {
             case "attest" -> same(call, x -> x.attest(build, key), () -> model.attest(build, key));
@@ -125,7 +137,7 @@ public final class ModelTest {
     }
 
     private void recallStep(String call) {
-        int build = number(24);
+        int build = build();
         int rebuilt = below(4) == 0 ? build : 0;
         int result = below(3);
         switch (call) {
@@ -138,7 +150,7 @@ public final class ModelTest {
     }
 
     private void mirrorStep(String call) {
-        int mirror = number(3);
+        int mirror = mirror();
         int name = number(5);
         int expiry = below(2) == 0 ? number(100) : number(12);
         int days = below(8) == 0 ? number(61) : 1 + below(run % 3 == 0 ? 3 : 20);
